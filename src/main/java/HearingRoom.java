@@ -625,7 +625,7 @@ public final class HearingRoom {
             return side.plugged ? side.driveAlone(log, tone, level) : UNPLUGGED;
         }
 
-        /** What is no pair and plugged in is driven. */
+        /** Whether it is plugged in was looked at already, ahead of the first body. */
         private int driveAlone(Log log, int tone, int level) {
             if (kind == FIELD) {
                 log.goThrough(BODY_FIELD);
@@ -782,7 +782,7 @@ public final class HearingRoom {
             endIfDue(rules);
         }
 
-        /** Works an answer to a tone that was not silent. */
+        /** Silent tones never come here, since they leave level, turns and hits alone. */
         private void move(boolean yes, int[] rules) {
             int heard = asInt(yes);
             if (latestHeard != NONE_YET && latestHeard != heard) addTurn();
@@ -832,7 +832,6 @@ public final class HearingRoom {
             return rank;
         }
 
-        /** Asked only where there were silent ones. */
         int falseRate() {
             return silentOnes > 0 ? falseOnes * 1000 / silentOnes : 0;
         }
@@ -1022,8 +1021,8 @@ public final class HearingRoom {
         int fillBetween(int ear, int way, int tone) {
             int place = placeOf(ear, way, tone);
             if (!Bits.isNan(values[place])) return 0;
-            int below = nextMeasured(ear, way, tone, -1);
-            int above = nextMeasured(ear, way, tone, 1);
+            int below = measuredBelow(ear, way, tone);
+            int above = measuredAbove(ear, way, tone);
             if (below < 0 || above < 0) return NOTHING;
             double x = Bits.toDouble(bitsAt(ear, way, below));
             double y = Bits.toDouble(bitsAt(ear, way, above));
@@ -1033,13 +1032,23 @@ public final class HearingRoom {
             return 1;
         }
 
-        /** The next tone that way with a value that is not itself filled in; -1: none. */
-        private int nextMeasured(int ear, int way, int tone, int toward) {
-            for (int t = tone + toward; t >= 0 && t < TONES; t += toward) {
-                int place = placeOf(ear, way, t);
-                if (!Bits.isNan(values[place]) && !marks[place]) return t;
+        private int measuredBelow(int ear, int way, int tone) {
+            for (int t = tone - 1; t >= 0; t--) {
+                if (isMeasured(placeOf(ear, way, t))) return t;
             }
             return -1;
+        }
+
+        private int measuredAbove(int ear, int way, int tone) {
+            for (int t = tone + 1; t < TONES; t++) {
+                if (isMeasured(placeOf(ear, way, t))) return t;
+            }
+            return -1;
+        }
+
+        /** What was filled in must not bear what is filled in next. */
+        private boolean isMeasured(int place) {
+            return !Bits.isNan(values[place]) && !marks[place];
         }
 
         long meanBits(int ear, int way, int tones) {
@@ -1113,6 +1122,7 @@ public final class HearingRoom {
             return Long.compare(one < 0 ? SIGN - one : one, other < 0 ? SIGN - other : other);
         }
 
+        /** Of endless ones, too; all others here are far below 2 to the 53rd, so they only grow. */
         static long ofDouble(double x) {
             // only a quotient tells the two zeros apart
             if (x == 0.0) return 1.0 / x < 0.0 ? SIGN : 0L;
@@ -1120,20 +1130,18 @@ public final class HearingRoom {
             double size = x < 0.0 ? 0.0 - x : x;
             if (size > 1.7976931348623157e308) return sign | ENDLESS_BITS;
             int power = UNIT_POWER;
-            for (; size >= 9007199254740992.0 && power < 2046; power++) size = size / 2.0;
             for (; size < 1048576.0 && power > 32; power -= 32) size = size * 4294967296.0;
             for (; size < 4503599627370496.0 && power > 1; power--) size = size * 2.0;
             // the hidden bit, where there is one, makes up for the 1 that is taken away
             return sign | (((long) (power - 1) << 52) + (long) size);
         }
 
-        /** Not of NAN or endless ones. Each halving is exact, since what comes last is a double. */
+        /** Of a chart's values alone, so it only shrinks; each halving is exact, as the last one is. */
         static double toDouble(long bits) {
             int power = (int) (bits >>> 52) & 0x7ff;
             long fraction = bits & (HIDDEN_BIT - 1L);
             double size = (double) (power == 0 ? fraction : fraction | HIDDEN_BIT);
             if (power == 0) power = 1;
-            for (; power > UNIT_POWER; power--) size = size * 2.0;
             for (; power <= UNIT_POWER - 32; power += 32) size = size / 4294967296.0;
             for (; power < UNIT_POWER; power++) size = size / 2.0;
             // by a product, since 0.0 less 0.0 would lose the sign

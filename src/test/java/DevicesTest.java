@@ -85,7 +85,9 @@ public final class DevicesTest {
         c.dueBad(x, "row(2, 3)", x.row(2, 3));
         c.dueBad(x, "row(-1, 3)", x.row(-1, 3));
         c.dueNumber("the row stayed", x.offset(0, 5), 9.0);
+        x.calibrate(0, 0, 4, 1);
         c.due("a new row", x.row(0, 7), 1);
+        c.dueNumber("is of 0.0 from its first place on", x.offset(0, 0), 0.0);
         c.dueNumber("is of 0.0", x.offset(0, 5), 0.0);
         c.dueNumber("is of 0.0 where there was NAN", x.offset(0, 6), 0.0);
         c.due("row(0, 0)", x.row(0, 0), 1);

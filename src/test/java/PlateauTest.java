@@ -59,6 +59,7 @@ public final class PlateauTest {
         // turns at 20, 60, 60, with FIRST 20 from 40
         int t = quick(x, "10" + "01" + "01" + "10");
         x.noise(t, 77);
+        x.drive(0, 0, 0, 0);
         c.due("known by the second and third", x.plateau(t, 10, 15, 12, 2, 0), 60);
         c.due("status()", x.status(), 0);
         c.due("finding()", x.finding(), 0);
@@ -100,6 +101,11 @@ public final class PlateauTest {
         int u = quick(z, "11111" + "11111");
         c.due("two without are not alike", z.plateau(u, 10, 15, 2, 2, 60), NOTHING);
         duePlateau(z, "two without", 0, 25, 2, 10, 0);
+        HearingRoom w = new HearingRoom();
+        int v = quick(w, "11" + "11");
+        w.rule(v, 7, 40);
+        c.due("hits do not go on", w.plateau(v, 10, 15, 2, 2, 60), NOTHING);
+        duePlateau(w, "hits do not go on", 0, 25, 2, 4, 0);
     }
 
     private static void promise26Finding() {
