@@ -1,6 +1,6 @@
 /** Promises 1 to 8. */
 public final class DevicesTest {
-    private static final int NOTHING = -1000, BAD = -1001, FULL = -1002;
+    private static final int NOTHING = -1000, FULL = -1002;
     private static final Check c = new Check("DevicesTest");
 
     public static void main(String[] args) {
