@@ -31,6 +31,7 @@ public final class ChartEdgesTest {
         furtherThanStep();
         compareTones();
         orderOfValues();
+        eachLineForItself();
         c.end();
     }
 
@@ -512,5 +513,45 @@ public final class ChartEdgesTest {
         HearingRoom marked = charted(30.0, NONE, 10.0);
         marked.between(0, 0, 0, 1);
         dueOrder("a MARKED one among them", marked, 2, 1, 0, 3);
+    }
+
+    /** A chart with a VALUE at each place of all lines but one. */
+    private static HearingRoom allBut(int line) {
+        HearingRoom x = new HearingRoom();
+        x.chart();
+        for (int i = 0; i < 96; i++) {
+            if (i / 24 != line) x.put(0, i / 48, i / 24 % 2, i % 24, bits(i - 500.0));
+        }
+        return x;
+    }
+
+    /** For each EAR, WAY, TONE a VALUE: those next to the ends of a line are of another EAR or WAY. */
+    private static void eachLineForItself() {
+        for (int line = 0; line < 4; line++) {
+            int ear = line / 2;
+            int way = line % 2;
+            HearingRoom x = allBut(line);
+            c.due("all lack in line " + line, x.lacking(0, ear, way, -1), 24);
+            c.due("no mean of line " + line, x.mean(0, ear, way, -1), Check.NAN);
+            c.due("no gap of line " + line, x.gap(0, ear, 0), Check.NAN);
+            for (int k = 0; k < 24; k++) c.due("order " + k + " of line " + line, x.order(0, ear, way, k), k);
+            c.due("neither below nor above", x.between(0, ear, way, 12), NOTHING);
+            x.put(0, ear, way, 23, bits(23.0));
+            c.due("none below", x.between(0, ear, way, 0), NOTHING);
+            c.due("none below, further", x.between(0, ear, way, 5), NOTHING);
+            x.put(0, ear, way, 23, Check.NAN);
+            x.put(0, ear, way, 0, bits(1.0));
+            c.due("none above", x.between(0, ear, way, 23), NOTHING);
+            c.due("none above, further", x.between(0, ear, way, 5), NOTHING);
+            c.due("one is there", x.lacking(0, ear, way, -1), 23);
+            c.dueNumber("the mean of it", x.mean(0, ear, way, -1), 1.0);
+            for (int bit = 24; bit < 32; bit++) c.due("bit " + bit, x.mean(0, ear, way, 1 << bit), Check.NAN);
+            for (int bit = 24; bit < 32; bit++) c.due("bit " + bit, x.lacking(0, ear, way, 1 << bit), 0);
+            for (int tone = 1; tone < 24; tone++) x.put(0, ear, way, tone, bits(1.0 - tone));
+            for (int k = 0; k < 24; k++) c.due("order " + k + " of the line", x.order(0, ear, way, k), 23 - k);
+            c.dueNumber("the mean of the line", x.mean(0, ear, way, -1), -10.5);
+            c.due("nothing lacks", x.lacking(0, ear, way, -1), 0);
+            c.dueNumber("gap at 0", x.gap(0, ear, 0), (way == 0 ? 1.0 : -1.0) * (1.0 - (48 * ear + 24 * (1 - way) - 500.0)));
+        }
     }
 }

@@ -243,6 +243,19 @@ public final class PlateauEdgesTest {
         y.rule(u, 1, 1);
         c.due("turns at 30 and 31", y.plateau(u, 81, 1, 2, 2, 1), 31);
         c.due("tones", y.plateauOf(3), 11 + 10);
+        // of its own: neither HITS nor TURNS nor answers go on from one to the next
+        HearingRoom z = new HearingRoom();
+        int w = made(z, "11" + "11" + "11", 7, 40);
+        c.due("two hits each", z.plateau(w, 0, 5, 3, 2, 60), NOTHING);
+        duePlateau(z, "two hits each", 0, 10, 3, 6, 0);
+        HearingRoom v = new HearingRoom();
+        int s = made(v, "1" + "0" + "1", 6, 1, 5, 1, 4, 1);
+        c.due("one answer each is no turn", v.plateau(s, 0, 5, 3, 2, 60), NOTHING);
+        duePlateau(v, "one answer each", 0, 10, 3, 3, 0);
+        HearingRoom p = new HearingRoom();
+        int q = made(p, "101" + "101", 6, 3, 5, 1, 4, 3);
+        c.due("two turns each are not four", p.plateau(q, 0, 5, 2, 2, 60), NOTHING);
+        duePlateau(p, "two turns each", 0, 5, 2, 6, 0);
     }
 
     /** A PLATEAU of a TEST that did not begin: the TEST itself stays as it was. */
