@@ -32,6 +32,7 @@ public final class ChartEdgesTest {
         compareTones();
         orderOfValues();
         eachLineForItself();
+        eachLineOfEachChart();
         c.end();
     }
 
@@ -53,6 +54,7 @@ public final class ChartEdgesTest {
         HearingRoom x = new HearingRoom();
         for (int i = 0; i < 20; i++) c.due("number " + i, x.chart(), i);
         c.dueRefused(x, "number 20", x.chart(), FULL);
+        busy.letBy("chart()", 3, r -> r.chart());
         almost.letBy("chart()", 19, r -> r.chart());
         full.refused("chart()", FULL, r -> r.chart());
     }
@@ -69,11 +71,11 @@ public final class ChartEdgesTest {
 
     /** BAD; STATE: the TEST is not ENDED. */
     private static void enterArguments() {
-        busy.range("enter(chart, 0)", 0, 1, (x, v) -> x.enter(v, 0));
+        busy.range("enter(chart, 0)", 0, 2, (x, v) -> x.enter(v, 0));
         busy.outside("enter(0, test)", 0, 3, (x, v) -> x.enter(0, v));
         busy.refused("enter(0, 1) of one going on", STATE, x -> x.enter(0, 1));
         busy.refused("enter(0, 2) of one that did not begin", STATE, x -> x.enter(0, 2));
-        busy.refused("enter(2, 1): BAD ahead of STATE", BAD, x -> x.enter(2, 1));
+        busy.refused("enter(3, 1): BAD ahead of STATE", BAD, x -> x.enter(3, 1));
         busy.letBy("enter(1, 3)", 0, x -> x.enter(1, 3));
         HearingRoom x = charted();
         c.dueBad(x, "enter(0, 0) without tests", x.enter(0, 0));
@@ -160,11 +162,11 @@ public final class ChartEdgesTest {
 
     /** For each EAR, WAY, TONE. .. BAD. */
     private static void putArguments() {
-        busy.range("put(chart, 0, 0, 5, 1.0)", 0, 1, (x, v) -> x.put(v, 0, 0, 5, bits(1.0)));
+        busy.range("put(chart, 0, 0, 5, 1.0)", 0, 2, (x, v) -> x.put(v, 0, 0, 5, bits(1.0)));
         busy.range("put(0, ear, 0, 5, 1.0)", 0, 1, (x, v) -> x.put(0, v, 0, 5, bits(1.0)));
         busy.range("put(0, 0, way, 5, 1.0)", 0, 1, (x, v) -> x.put(0, 0, v, 5, bits(1.0)));
         busy.range("put(0, 0, 0, tone, 1.0)", 0, 23, (x, v) -> x.put(0, 0, 0, v, bits(1.0)));
-        busy.refused("put(2, 0, 0, 5, NAN)", BAD, x -> x.put(2, 0, 0, 5, Check.NAN));
+        busy.refused("put(3, 0, 0, 5, NAN)", BAD, x -> x.put(3, 0, 0, 5, Check.NAN));
         busy.refused("put(0, 0, 0, 24, NAN)", BAD, x -> x.put(0, 0, 0, 24, Check.NAN));
         full.letBy("put(19, 1, 1, 23, 1.0)", 1, x -> x.put(19, 1, 1, 23, bits(1.0)));
     }
@@ -219,7 +221,7 @@ public final class ChartEdgesTest {
 
     /** BITS of a VALUE. BAD. */
     private static void atArguments() {
-        busy.range("at(chart, 0, 0, 1)", 0, 1, (x, v) -> x.at(v, 0, 0, 1));
+        busy.range("at(chart, 0, 0, 1)", 0, 2, (x, v) -> x.at(v, 0, 0, 1));
         busy.range("at(0, ear, 0, 1)", 0, 1, (x, v) -> x.at(0, v, 0, 1));
         busy.range("at(0, 0, way, 1)", 0, 1, (x, v) -> x.at(0, 0, v, 1));
         busy.range("at(0, 0, 0, tone)", 0, 23, (x, v) -> x.at(0, 0, 0, v));
@@ -230,7 +232,7 @@ public final class ChartEdgesTest {
     }
 
     private static void betweenArguments() {
-        busy.range("between(chart, 0, 0, 2)", 0, 1, (x, v) -> x.between(v, 0, 0, 2));
+        busy.range("between(chart, 0, 0, 2)", 0, 2, (x, v) -> x.between(v, 0, 0, 2));
         busy.range("between(0, ear, 0, 2)", 0, 1, (x, v) -> x.between(0, v, 0, 2));
         busy.range("between(0, 0, way, 2)", 0, 1, (x, v) -> x.between(0, 0, v, 2));
         busy.range("between(0, 0, 0, tone)", 0, 23, (x, v) -> x.between(0, 0, 0, v));
@@ -327,7 +329,7 @@ public final class ChartEdgesTest {
     }
 
     private static void markedArguments() {
-        busy.range("marked(chart, 0, 0, 3)", 0, 1, (x, v) -> x.marked(v, 0, 0, 3));
+        busy.range("marked(chart, 0, 0, 3)", 0, 2, (x, v) -> x.marked(v, 0, 0, 3));
         busy.range("marked(0, ear, 0, 3)", 0, 1, (x, v) -> x.marked(0, v, 0, 3));
         busy.range("marked(0, 0, way, 3)", 0, 1, (x, v) -> x.marked(0, 0, v, 3));
         busy.range("marked(0, 0, 0, tone)", 0, 23, (x, v) -> x.marked(0, 0, 0, v));
@@ -335,7 +337,7 @@ public final class ChartEdgesTest {
 
     /** At the TONES whose bits tones has (those from 24 on are not looked at), MARKED ones, too; NAN: there is none. */
     private static void meanOfTones() {
-        busy.range("mean(chart, 0, 0, 2)", 0, 1, (x, v) -> x.mean(v, 0, 0, 2));
+        busy.range("mean(chart, 0, 0, 2)", 0, 2, (x, v) -> x.mean(v, 0, 0, 2));
         busy.range("mean(0, ear, 0, 2)", 0, 1, (x, v) -> x.mean(0, v, 0, 2));
         busy.range("mean(0, 0, way, 2)", 0, 1, (x, v) -> x.mean(0, 0, v, 2));
         HearingRoom x = charted();
@@ -386,7 +388,7 @@ public final class ChartEdgesTest {
 
     /** How many of these TONES have none. BAD. */
     private static void lackingTones() {
-        busy.range("lacking(chart, 0, 0, 2)", 0, 1, (x, v) -> x.lacking(v, 0, 0, 2));
+        busy.range("lacking(chart, 0, 0, 2)", 0, 2, (x, v) -> x.lacking(v, 0, 0, 2));
         busy.range("lacking(0, ear, 0, 2)", 0, 1, (x, v) -> x.lacking(0, v, 0, 2));
         busy.range("lacking(0, 0, way, 2)", 0, 1, (x, v) -> x.lacking(0, 0, v, 2));
         HearingRoom x = charted();
@@ -405,7 +407,7 @@ public final class ChartEdgesTest {
 
     /** The VALUE of WAY 0 less that of WAY 1; NAN: one is none. BAD. */
     private static void gapOfWays() {
-        busy.range("gap(chart, 0, 1)", 0, 1, (x, v) -> x.gap(v, 0, 1));
+        busy.range("gap(chart, 0, 1)", 0, 2, (x, v) -> x.gap(v, 0, 1));
         busy.range("gap(0, ear, 1)", 0, 1, (x, v) -> x.gap(0, v, 1));
         busy.range("gap(0, 0, tone)", 0, 23, (x, v) -> x.gap(0, 0, v));
         busy.letBy("gap(0, 0, 1)", bits(13.25), x -> x.gap(0, 0, 1));
@@ -432,8 +434,8 @@ public final class ChartEdgesTest {
 
     /** Further than step (0 .. 1000, as a double) from that of another CHART (earlier; any one). .. NOTHING: one is none. */
     private static void furtherThanStep() {
-        busy.range("change(chart, 1, 0, 0, 1, 5)", 0, 1, (x, v) -> x.change(v, 1, 0, 0, 1, 5));
-        busy.range("change(0, earlier, 0, 0, 1, 5)", 0, 1, (x, v) -> x.change(0, v, 0, 0, 1, 5));
+        busy.range("change(chart, 1, 0, 0, 1, 5)", 0, 2, (x, v) -> x.change(v, 1, 0, 0, 1, 5));
+        busy.range("change(0, earlier, 0, 0, 1, 5)", 0, 2, (x, v) -> x.change(0, v, 0, 0, 1, 5));
         busy.range("change(0, 1, ear, 0, 1, 5)", 0, 1, (x, v) -> x.change(0, 1, v, 0, 1, 5));
         busy.range("change(0, 1, 0, way, 1, 5)", 0, 1, (x, v) -> x.change(0, 1, 0, v, 1, 5));
         busy.range("change(0, 1, 0, 0, tone, 5)", 0, 23, (x, v) -> x.change(0, 1, 0, 0, v, 5));
@@ -462,7 +464,7 @@ public final class ChartEdgesTest {
 
     /** VALUES of two TONES: -1 less, 0 equal, 1 greater; NOTHING: one is none. BAD. */
     private static void compareTones() {
-        busy.range("compare(chart, 0, 0, 1, 9)", 0, 1, (x, v) -> x.compare(v, 0, 0, 1, 9));
+        busy.range("compare(chart, 0, 0, 1, 9)", 0, 2, (x, v) -> x.compare(v, 0, 0, 1, 9));
         busy.range("compare(0, ear, 0, 1, 9)", 0, 1, (x, v) -> x.compare(0, v, 0, 1, 9));
         busy.range("compare(0, 0, way, 1, 9)", 0, 1, (x, v) -> x.compare(0, 0, v, 1, 9));
         busy.range("compare(0, 0, 0, t, 9)", 0, 23, (x, v) -> x.compare(0, 0, 0, v, 9));
@@ -492,7 +494,7 @@ public final class ChartEdgesTest {
 
     /** Numbers first, rising, of like ones (0.0 and -0.0, too) the lesser TONE first; then those without, by TONES. */
     private static void orderOfValues() {
-        busy.range("order(chart, 0, 0, 0)", 0, 1, (x, v) -> x.order(v, 0, 0, 0));
+        busy.range("order(chart, 0, 0, 0)", 0, 2, (x, v) -> x.order(v, 0, 0, 0));
         busy.range("order(0, ear, 0, 0)", 0, 1, (x, v) -> x.order(0, v, 0, 0));
         busy.range("order(0, 0, way, 0)", 0, 1, (x, v) -> x.order(0, 0, v, 0));
         busy.range("order(0, 0, 0, k)", 0, 23, (x, v) -> x.order(0, 0, 0, v));
@@ -552,6 +554,40 @@ public final class ChartEdgesTest {
             c.dueNumber("the mean of the line", x.mean(0, ear, way, -1), -10.5);
             c.due("nothing lacks", x.lacking(0, ear, way, -1), 0);
             c.dueNumber("gap at 0", x.gap(0, ear, 0), (way == 0 ? 1.0 : -1.0) * (1.0 - (48 * ear + 24 * (1 - way) - 500.0)));
+        }
+    }
+
+    /** For each EAR, WAY, TONE a VALUE .. and whether that is MARKED: of that chart, that EAR, that WAY alone. */
+    private static void eachLineOfEachChart() {
+        for (int line = 0; line < 4; line++) {
+            HearingRoom x = new HearingRoom();
+            x.chart();
+            x.chart();
+            // in chart 0 tones 1 and 3 of a line are 10 and 20 times its number apart, in chart 1 they are not there
+            for (int of = 0; of < 4; of++) {
+                x.put(0, of / 2, of % 2, 1, bits(of * 100.0));
+                x.put(0, of / 2, of % 2, 3, bits(of * 100.0 + (of - 2) * 20.0));
+            }
+            int ear = line / 2;
+            int way = line % 2;
+            c.due("between of line " + line, x.between(0, ear, way, 2), 1);
+            for (int of = 0; of < 4; of++) {
+                boolean same = of == line;
+                String told = " of line " + of + ", filled was " + line;
+                c.due("marked" + told, x.marked(0, of / 2, of % 2, 2), same ? 1 : 0);
+                c.due("at" + told, x.at(0, of / 2, of % 2, 2), same ? bits(of * 100.0 + (of - 2) * 10.0) : Check.NAN);
+                c.due("compare" + told, x.compare(0, of / 2, of % 2, 1, 3), of < 2 ? 1 : of > 2 ? -1 : 0);
+                c.due("compare with 2" + told, x.compare(0, of / 2, of % 2, 2, 1), !same ? NOTHING : Integer.compare(of, 2));
+                c.due("lacking" + told, x.lacking(0, of / 2, of % 2, 0b1110), same ? 0 : 1);
+                c.due("lacking in the other chart" + told, x.lacking(1, of / 2, of % 2, 0b1110), 3);
+            }
+            x.put(1, ear, way, 1, bits(line * 100.0 + 7.0));
+            for (int of = 0; of < 4; of++) {
+                c.due("change by 7", x.change(0, 1, of / 2, of % 2, 1, 7), of == line ? 0 : NOTHING);
+                c.due("change by 7 back", x.change(1, 0, of / 2, of % 2, 1, 7), of == line ? 0 : NOTHING);
+                c.due("change by 6", x.change(0, 1, of / 2, of % 2, 1, 6), of == line ? 1 : NOTHING);
+                c.due("change by 6 back", x.change(1, 0, of / 2, of % 2, 1, 6), of == line ? 1 : NOTHING);
+            }
         }
     }
 }

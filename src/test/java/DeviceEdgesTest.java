@@ -173,8 +173,12 @@ public final class DeviceEdgesTest {
         c.due("offset(0, 0)", x.offset(0, 0), Check.NAN);
         c.due("status()", x.status(), 0);
         c.dueNumber("the place behind it", x.offset(0, 1), 3.5);
+        c.due("calibrate(0, 9, 5, 2) beside a NAN", x.calibrate(0, 9, 5, 2), 1);
+        c.dueNumber("offset(0, 9)", x.offset(0, 9), 2.5);
+        c.due("offset(0, 0) is still NAN", x.offset(0, 0), Check.NAN);
         c.due("calibrate(0, 0, 0, 1)", x.calibrate(0, 0, 0, 1), 1);
         c.dueNumber("offset(0, 0) again", x.offset(0, 0), 0.0);
+        c.due("offset(0, 2) is still NAN", x.offset(0, 2), Check.NAN);
     }
 
     private static void dueOffset(int top, int bottom, double due) {
@@ -317,6 +321,9 @@ public final class DeviceEdgesTest {
             x.plug(2, true);
             c.dueNumber("both are, the other one need not be", x.drive(2, ear, 0, 40), 41.0 + ear);
             c.dueTrace(x, "driven", 5, 1);
+            x.row(ear, 7);
+            x.calibrate(ear, 6, 5, 1);
+            c.dueNumber("with this tone", x.drive(2, ear, 6, -20), -15.0);
             x.plug(1 - ear, true);
             x.plug(ear, false);
             c.dueFindingBits(x, "the other one does not help", x.drive(2, ear, 0, 40), 1);
@@ -376,6 +383,8 @@ public final class DeviceEdgesTest {
         int[] rows = {24, 6, NOTHING, 24, NOTHING};
         for (int d = 0; d <= 4; d++) {
             int of = d;
+            busy.letBy("kindOf(" + d + ", 0)", d, x -> x.kindOf(of, 0));
+            busy.letBy("kindOf(" + d + ", 1)", d == 2 ? 0 : 1, x -> x.kindOf(of, 1));
             busy.letBy("kindOf(" + d + ", 2)", rows[d], x -> x.kindOf(of, 2));
             busy.letBy("kindOf(" + d + ", 3)", ways[d], x -> x.kindOf(of, 3));
             busy.letBy("kindOf(" + d + ", 4)", d == 4 ? 1 : NOTHING, x -> x.kindOf(of, 4));

@@ -30,6 +30,48 @@ public final class KeptEdgesTest {
         busy.range("told(test, 0)", 0, 3, (x, v) -> x.told(v, 0));
         HearingRoom x = new HearingRoom();
         c.dueBad(x, "told(0, 0) without any", x.told(0, 0));
+        // numbers that are told apart: 7 answers, 3 to SILENT ones, 1 of them FALSE, 2 TURNS, 1 HIT at HIGH
+        Edges told = new Edges(c, KeptEdgesTest::manyNumbers);
+        int[] due = {48, 7, 2, 0, 0, 1, 3, 11, 1, 5, 3, 1, 8};
+        for (int what = 0; what <= 12; what++) {
+            int w = what;
+            told.letBy("told(4, " + w + ")", due[w], r -> r.told(4, w));
+        }
+        int[] first = {40, 0, 0, 0, 0, 0, 0, NOTHING, 0, 5, 3, 0, 9};
+        for (int what = 0; what <= 12; what++) {
+            int w = what;
+            told.letBy("told(5, " + w + ")", first[w], r -> r.told(5, w));
+        }
+        int[] levels = {40, NOTHING, 48, NOTHING, 46, NOTHING, 48};
+        int[] answers = {0, 0, 1, 1, 0, 0, 0};
+        for (int k = 0; k < 7; k++) {
+            int n = k;
+            told.letBy("tone(4, " + k + ")", levels[k], r -> r.tone(4, n));
+            told.letBy("answer(4, " + k + ")", answers[k], r -> r.answer(4, n));
+        }
+        told.letBy("turn(4, 0)", 48, r -> r.turn(4, 0));
+        told.letBy("turn(4, 1)", 46, r -> r.turn(4, 1));
+        told.letBy("rate(4)", 333, r -> r.rate(4));
+        told.letBy("unsure(4)", 1, r -> r.unsure(4));
+    }
+
+    private static HearingRoom manyNumbers() {
+        HearingRoom x = Rooms.busy();
+        int d = Rooms.ready(x, 0);
+        x.listener(1);
+        int l = x.listener(0);
+        x.script(l, 0b0001100, 7);
+        int t = x.test(d, l, 1, 8);
+        x.test(d, l, 0, 9);
+        x.rule(t, 9, 2);
+        x.rule(t, 1, 60);
+        x.rule(t, 2, 2);
+        x.rule(t, 3, 60);
+        x.rule(t, 8, 48);
+        x.noise(t, 11);
+        x.run(t, 7);
+        x.tone(t, 99);
+        return x;
     }
 
     /** LEVEL of tone k (from 0) that was answered. BAD; UNREADY: there is no such one (also k below 0). */

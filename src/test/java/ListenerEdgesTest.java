@@ -275,6 +275,9 @@ public final class ListenerEdgesTest {
         dueHeardFrom("other limen 20, noise 20", 60, NOTHING, 20, 20);
         dueHeardFrom("other limen 20, noise 21", 61, NOTHING, 20, 21);
         dueHeardFrom("other limen 20, noise -20", 60, NOTHING, 20, -20);
+        dueHeardFrom("other limen -20, noise 0", 40, NOTHING, -20, 0);
+        dueHeardFrom("other limen -20, noise -20", 20, NOTHING, -20, -20);
+        dueHeardFrom("other limen -20, noise -19", 21, NOTHING, -20, -19);
         dueHeardFrom("own limen 61, other 20", 60, 61, 20, NOTHING);
         dueHeardFrom("own limen 59, other 20", 59, 59, 20, NOTHING);
         // the own ear is kept by noise 112 up to 62, the other one up to 152

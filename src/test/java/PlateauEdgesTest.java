@@ -189,6 +189,15 @@ public final class PlateauEdgesTest {
         int u = quick(y, "10" + "01" + "10" + "10" + "10");
         c.due("the least and greatest of three", y.plateau(u, 0, 1, 12, 3, 39), 20);
         duePlateau(y, "three", 1, 4, 5, 10, 0);
+        String[] three = {"10" + "01" + "01", "01" + "10" + "10", "10" + "01" + "10", "01" + "10" + "01"};
+        for (String answers : three) {
+            HearingRoom z = new HearingRoom();
+            int w = quick(z, answers);
+            c.due(answers + ", span 39", z.plateau(w, 0, 1, 3, 3, 39), NOTHING);
+            HearingRoom v = new HearingRoom();
+            int s = quick(v, answers);
+            c.due(answers + ", span 40", v.plateau(s, 0, 1, 3, 3, 40), answers.endsWith("01") ? 60 : 20);
+        }
     }
 
     /** A FINDING, or no more NOISES: NOT KNOWN. .. status() is 0 also with a FINDING. */
@@ -302,6 +311,13 @@ public final class PlateauEdgesTest {
     /** Of the latest PLATEAU: .. 1 the NOISE that it came to last (NOTHING: there was none) .. BAD. */
     private static void latestPlateau() {
         busy.range("plateauOf(what)", 0, 4, (x, v) -> x.plateauOf(v));
+        HearingRoom twin = Rooms.busy();
+        int[] told = new int[5];
+        for (int what = 0; what < 5; what++) told[what] = twin.plateauOf(what);
+        for (int what = 0; what < 5; what++) {
+            int w = what;
+            busy.letBy("plateauOf(" + w + ")", told[w], x -> x.plateauOf(w));
+        }
         HearingRoom x = new HearingRoom();
         duePlateau(x, "none yet", 0, NOTHING, 0, 0, 0);
         int t = quick(x, "1010");

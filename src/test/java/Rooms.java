@@ -35,7 +35,7 @@ final class Rooms {
     /**
      * Devices 0 PHONE, 1 BONE with a short row, 2 INSERT neither plugged in nor with a row, 3 FIELD, 4 PAIR of 1
      * and 3; listeners 0 by SCRIPT, 1 by LIMENS; tests 0 ENDED by TURNS, 1 going on, 2 not begun, 3 ENDED by MOST;
-     * two charts with VALUES, MARKED ones among them. The latest finding is 8, TRACE is 5, 2, 1.
+     * three charts with VALUES, MARKED ones among them. The latest finding is 8, TRACE is 5, 2, 1.
      */
     static HearingRoom busy() {
         HearingRoom x = new HearingRoom();
@@ -91,8 +91,7 @@ final class Rooms {
     }
 
     private static void busyCharts(HearingRoom x) {
-        x.chart();
-        x.chart();
+        for (int i = 0; i < 3; i++) x.chart();
         x.put(0, 0, 0, 1, bits(10.0));
         x.put(0, 0, 0, 9, bits(30.5));
         x.between(0, 0, 0, 3);

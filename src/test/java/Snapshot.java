@@ -77,7 +77,7 @@ final class Snapshot {
             keep(x.threshold(t));
             keep(x.rate(t));
             keep(x.unsure(t));
-            for (int k = 0; k < 14; k++) {
+            for (int k = 0; k < 10; k++) {
                 keep(x.tone(t, k));
                 keep(x.answer(t, k));
                 keep(x.turn(t, k));

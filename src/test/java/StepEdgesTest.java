@@ -42,6 +42,7 @@ public final class StepEdgesTest {
         busy.outside("step(test)", 0, 3, (x, v) -> x.step(v));
         busy.refused("step(0)", STATE, x -> x.step(ENDED));
         busy.refused("step(3)", STATE, x -> x.step(ENDED_BY_MOST));
+        busy.letBy("step(1)", Rooms.busy().step(GOING), x -> x.step(GOING));
         HearingRoom x = new HearingRoom();
         c.dueBad(x, "step(0) without any", x.step(0));
         int t = made(x, "10");

@@ -277,7 +277,7 @@ public final class ToldEdgesTest {
     private static void countArguments() {
         busy.outside("count(what)", 0, 3, (x, v) -> x.count(v));
         HearingRoom x = Rooms.busy();
-        int[] due = {5, 2, 4, 2};
+        int[] due = {5, 2, 4, 3};
         for (int what = 0; what < 4; what++) c.due("count(" + what + ")", x.count(what), due[what]);
         c.due("status() is left", x.status(), -108);
     }
@@ -345,7 +345,7 @@ public final class ToldEdgesTest {
         busy.refused("noise(0, 121): BAD ahead of STATE", BAD, x -> x.noise(0, 121));
         busy.refused("run(0, 201): BAD ahead of STATE", BAD, x -> x.run(0, 201));
         busy.refused("plateau(0, 0, 1, 2, 2, 61): BAD ahead of STATE", BAD, x -> x.plateau(0, 0, 1, 2, 2, 61));
-        busy.refused("enter(2, 1): BAD ahead of STATE", BAD, x -> x.enter(2, 1));
+        busy.refused("enter(3, 1): BAD ahead of STATE", BAD, x -> x.enter(3, 1));
         busy.refused("row(4, 25): BAD ahead of UNFIT", BAD, x -> x.row(4, 25));
         busy.refused("calibrate(4, 24, 0, 0): BAD ahead of UNFIT", BAD, x -> x.calibrate(4, 24, 0, 0));
         busy.refused("offset(2, 24): BAD ahead of LACKING", BAD, x -> x.offset(2, 24));
@@ -394,7 +394,7 @@ public final class ToldEdgesTest {
             for (int k = 0; k < y.told(t, 1); k++) g = 31 * (31 * g + y.tone(t, k)) + y.answer(t, k);
             g = 31 * g + y.told(t, 3);
         }
-        for (int i = 0; i < 192; i++) g = 31 * g + y.at(i / 96, i / 48 % 2, i / 24 % 2, i % 24);
+        for (int i = 0; i < 288; i++) g = 31 * g + y.at(i / 96, i / 48 % 2, i / 24 % 2, i % 24);
         c.due("digest() of a busy room", y.digest(), g);
     }
 
