@@ -23,6 +23,10 @@ public final class FaceTest {
         "int order(int,int,int,int)", "int silent(int)", "int findings(int)", "int finding()", "int trace(int)",
         "int count(int)", "int status()", "long digest()"};
 
+    /** Types of constants (rule 5), of those that the program could have. */
+    private static final Set<Class<?>> CONSTANTS = Set.of(int.class, long.class, boolean.class, char.class,
+        int[].class, long[].class, char[].class, byte[].class);
+
     public static void main(String[] args) {
         Class<?> room = HearingRoom.class;
         c.due("public final", room.getModifiers() & (Modifier.PUBLIC | Modifier.FINAL), Modifier.PUBLIC | Modifier.FINAL);
@@ -82,8 +86,7 @@ public final class FaceTest {
             boolean fixed = Modifier.isStatic(f.getModifiers());
             if (!fixed) own++;
             if (fixed) c.due(f + " is final", Modifier.isFinal(f.getModifiers()) ? 1 : 0, 1);
-            boolean real = f.getType() == double.class || f.getType() == float.class;
-            c.due(f + " is a constant that may not be", fixed && real ? 1 : 0, 0);
+            if (fixed) c.due(f + " is a constant of a type that may be one", CONSTANTS.contains(f.getType()) ? 1 : 0, 1);
         }
         c.due(of + " has more than twenty fields", own > 20 ? 1 : 0, 0);
     }
